@@ -1,0 +1,60 @@
+/** Promise 5 (rule). */
+public final class RuleTest {
+    public static void main(String[] args) {
+        rulesAreRefused();
+        aRuleIsForFaultsThatCome();
+        aRuleIsItsKindsAlone();
+        Check.end();
+    }
+
+    private static void rulesAreRefused() {
+        RobotFaults x = Check.robots(1);
+        refused(x, -1, 1, 1);
+        refused(x, 8, 1, 1);
+        refused(x, 0, 0, 1);
+        refused(x, 0, 3, 1);
+        refused(x, 0, 1, 0);
+        refused(x, 0, 1, 6);
+        refused(x, 0, -1, Integer.MIN_VALUE);
+        x.fault(0, 0);
+        Check.due("rank after refusals", x.alarm(0, 2), 3);
+        Check.due("test after refusals", x.told(0, 4), 0);
+        x.rule(0, 1, false, 1);
+        x.rule(7, 2, true, 5);
+    }
+
+    private static void refused(RobotFaults x, int kind, int persons, int rank) {
+        Check.refused("rule(" + kind + ", " + persons + ", true, " + rank + ")", IllegalArgumentException.class,
+                () -> x.rule(kind, persons, true, rank));
+    }
+
+    private static void aRuleIsForFaultsThatCome() {
+        RobotFaults x = Check.robots(2);
+        x.rule(4, 2, false, 5);
+        x.fault(0, 4);
+        x.rule(4, 1, true, 1);
+        x.fault(1, 4);
+        Check.due("rank as it was", x.alarm(0, 2), 5);
+        Check.due("rank as it is", x.alarm(1, 2), 1);
+        Check.due("test as it was", x.told(0, 4), 0);
+        Check.due("test as it is", x.told(1, 4), 1);
+        Check.due("persons as it was", x.step(1, 0), 0);
+        Check.due("persons as it is", x.step(2, 0), 1);
+        x.rule(4, 1, false, 3);
+        Check.due("a later rule takes no test away", x.told(1, 4), 1);
+        Check.due("a later rule takes no person away", x.known(1, 3), -1);
+    }
+
+    private static void aRuleIsItsKindsAlone() {
+        for (int kind = 0; kind < 8; kind++) {
+            RobotFaults x = Check.robots(1);
+            x.load(0, 1);
+            x.rule(kind, 2, true, 4);
+            for (int each = 0; each < 8; each++) {
+                x.fault(0, each);
+                Check.due("rank of " + each, x.alarm(each, 2), each == kind ? 4 : 3);
+                Check.due("persons of " + each, x.step(each + 1, 3), each == kind ? 0 : 1);
+            }
+        }
+    }
+}
