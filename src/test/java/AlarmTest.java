@@ -1,5 +1,3 @@
-import java.util.NoSuchElementException;
-
 /** Promises 17 (acknowledge), 18 (alarm), 21 (first), 22 (count). */
 public final class AlarmTest {
     public static void main(String[] args) {
@@ -9,8 +7,6 @@ public final class AlarmTest {
         robotsAndKindsAreApart();
         aJoinedAlarmIsAsItWas();
         acknowledging();
-        acknowledgingIsRefused();
-        alarmIsRefused();
         fortyAlarms();
         theFirstByLevel();
         theFirstByRankThenNumber();
@@ -18,21 +14,15 @@ public final class AlarmTest {
         Check.end();
     }
 
-    private static void alarm(RobotFaults x, int alarm, int... want) {
-        for (int what = 0; what < want.length; what++) {
-            Check.due("alarm(" + alarm + ", " + what + ")", x.alarm(alarm, what), want[what]);
-        }
-    }
-
     private static void anAlarmIsTold() {
         RobotFaults x = Check.robots(3);
         x.rule(6, 1, false, 5);
         x.pass(11);
         x.fault(2, 6);
-        alarm(x, 0, 2, 6, 5, 0, 1, -1, 11);
+        Check.alarm(x, 0, 2, 6, 5, 0, 1, -1, 11);
         x.pass(35);
         x.acknowledge(0, 4);
-        alarm(x, 0, 2, 6, 5, 1, 1, 4, 11);
+        Check.alarm(x, 0, 2, 6, 5, 1, 1, 4, 11);
     }
 
     private static void faultsJoinForSixtySeconds() {
@@ -40,15 +30,15 @@ public final class AlarmTest {
         Check.faultsAndResets(x, 0, 0, 1);
         x.pass(60);
         Check.faultsAndResets(x, 0, 0, 1);
-        alarm(x, 0, 0, 0, 3, 0, 2, -1, 60);
+        Check.alarm(x, 0, 0, 0, 3, 0, 2, -1, 60);
         Check.due("alarm of the second fault", x.known(2, 4), 0);
         RobotFaults y = Check.robots(1);
         Check.faultsAndResets(y, 0, 0, 1);
         y.pass(61);
         Check.faultsAndResets(y, 0, 0, 1);
         Check.due("alarm of a later one", y.known(2, 4), 1);
-        alarm(y, 0, 0, 0, 3, 0, 1, -1, 0);
-        alarm(y, 1, 0, 0, 3, 0, 1, -1, 61);
+        Check.alarm(y, 0, 0, 0, 3, 0, 1, -1, 0);
+        Check.alarm(y, 1, 0, 0, 3, 0, 1, -1, 61);
         Check.faultsAndResets(y, 0, 0, 1);
         Check.due("the latest is joined", y.known(3, 4), 1);
     }
@@ -59,7 +49,7 @@ public final class AlarmTest {
             Check.faultsAndResets(x, 0, 0, 1);
             x.pass(60);
         }
-        alarm(x, 0, 0, 0, 3, 0, 5, -1, 240);
+        Check.alarm(x, 0, 0, 0, 3, 0, 5, -1, 240);
         x.fault(0, 0);
         x.pass(300);
         x.step(6, 0);
@@ -88,7 +78,7 @@ public final class AlarmTest {
         x.step(1, 0);
         x.rule(0, 1, false, 1);
         x.fault(0, 0);
-        alarm(x, 0, 0, 0, 4, 1, 2, -1, 45);
+        Check.alarm(x, 0, 0, 0, 4, 1, 2, -1, 45);
         Check.due("and can be acknowledged again", x.acknowledge(0, 1), 1);
     }
 
@@ -102,34 +92,6 @@ public final class AlarmTest {
         x.step(2, 0);
         Check.due("level 3, though reset", x.acknowledge(1, 7), 3);
         Check.due("person 7", x.alarm(1, 5), 7);
-    }
-
-    private static void acknowledgingIsRefused() {
-        RobotFaults x = Check.robots(1);
-        x.fault(0, 0);
-        Check.refused("acknowledge(1, 8)", NoSuchElementException.class, () -> x.acknowledge(1, 8));
-        Check.refused("acknowledge(-1, 0)", NoSuchElementException.class, () -> x.acknowledge(-1, 0));
-        Check.refused("acknowledge(40, 0)", NoSuchElementException.class, () -> x.acknowledge(40, 0));
-        Check.refused("acknowledge(0, 8)", IllegalArgumentException.class, () -> x.acknowledge(0, 8));
-        Check.refused("acknowledge(0, -1)", IllegalArgumentException.class, () -> x.acknowledge(0, -1));
-        Check.due("not acknowledged yet", x.alarm(0, 5), -1);
-        x.acknowledge(0, 2);
-        Check.refused("by another", IllegalStateException.class, () -> x.acknowledge(0, 3));
-        Check.refused("by the same", IllegalStateException.class, () -> x.acknowledge(0, 2));
-        Check.refused("a wrong person comes first", IllegalArgumentException.class, () -> x.acknowledge(0, 8));
-        Check.due("the person stays", x.alarm(0, 5), 2);
-    }
-
-    private static void alarmIsRefused() {
-        RobotFaults x = Check.robots(1);
-        x.fault(0, 0);
-        Check.refused("alarm(1, 0)", NoSuchElementException.class, () -> x.alarm(1, 0));
-        Check.refused("alarm(1, 7)", NoSuchElementException.class, () -> x.alarm(1, 7));
-        Check.refused("alarm(-1, 0)", NoSuchElementException.class, () -> x.alarm(-1, 0));
-        Check.refused("alarm(40, 0)", NoSuchElementException.class, () -> x.alarm(40, 0));
-        Check.refused("alarm(max, 0)", NoSuchElementException.class, () -> x.alarm(Integer.MAX_VALUE, 0));
-        Check.refused("alarm(0, 7)", IllegalArgumentException.class, () -> x.alarm(0, 7));
-        Check.refused("alarm(0, -1)", IllegalArgumentException.class, () -> x.alarm(0, -1));
     }
 
     private static void fortyAlarms() {
@@ -202,14 +164,7 @@ public final class AlarmTest {
         x.plant(0, 5, 100);
         x.plant(0, 6, 2);
         x.pass(3);
-        int[] want = {3, 2, 5, 4, 4, 3, 18, 18 + 5 + 8 + 3 + 1, 1};
-        for (int what = 0; what < want.length; what++) {
-            Check.due("count(" + what + ")", x.count(what), want[what]);
-        }
-        int[] others = {-1, 9, Integer.MIN_VALUE, Integer.MAX_VALUE};
-        for (int what : others) {
-            Check.due("count(" + what + ")", x.count(what), -1);
-        }
+        Check.counts(x, 3, 2, 5, 4, 4, 3, 18, 18 + 5 + 8 + 3 + 1, 1);
         x.step(1, 1);
         x.pass(10);
         Check.due("count(7) without the reset one", x.count(7), 18 + 5 + 18 + 13 + 11);

@@ -1,5 +1,3 @@
-import java.util.NoSuchElementException;
-
 /** Promises 12 (zone), 13 (found). */
 public final class LostTest {
     public static void main(String[] args) {
@@ -7,19 +5,9 @@ public final class LostTest {
         theZoneEndsWhereLinksEnd();
         linksThatComeLaterCount();
         theWholeRowIsReached();
-        zonesAreRefused();
         foundByTheFewestLinks();
-        findingIsRefused();
         aRobotIsLostAnew();
         Check.end();
-    }
-
-    private static void zone(RobotFaults x, int robot, int... want) {
-        for (int i = 0; i < want.length; i++) {
-            Check.due("zone(" + robot + ", " + i + ")", x.zone(robot, i), want[i]);
-        }
-        Check.due("zone(" + robot + ", end)", x.zone(robot, want.length), -1);
-        Check.due("zone(" + robot + ", max)", x.zone(robot, Integer.MAX_VALUE), -1);
     }
 
     private static void theZoneGrows() {
@@ -27,18 +15,18 @@ public final class LostTest {
         x.robot(3);
         x.pass(17);
         x.fault(0, 1);
-        zone(x, 0, 3);
+        Check.zone(x, 0, 3);
         x.pass(9);
-        zone(x, 0, 3);
+        Check.zone(x, 0, 3);
         x.pass(1);
-        zone(x, 0, 2, 3, 4);
+        Check.zone(x, 0, 2, 3, 4);
         x.pass(9);
-        zone(x, 0, 2, 3, 4);
+        Check.zone(x, 0, 2, 3, 4);
         x.pass(1);
-        zone(x, 0, 1, 2, 3, 4, 5);
+        Check.zone(x, 0, 1, 2, 3, 4, 5);
         x.step(1, 0);
         x.pass(10);
-        zone(x, 0, 0, 1, 2, 3, 4, 5, 6);
+        Check.zone(x, 0, 0, 1, 2, 3, 4, 5, 6);
         Check.due("its last piece is told", x.told(0, 1), 3);
     }
 
@@ -51,7 +39,7 @@ public final class LostTest {
         x.robot(4);
         x.fault(0, 1);
         x.pass(1000);
-        zone(x, 0, 1, 4);
+        Check.zone(x, 0, 1, 4);
         Check.refused("found where no link leads", IllegalStateException.class, () -> x.found(0, 2));
     }
 
@@ -61,9 +49,9 @@ public final class LostTest {
         x.fault(0, 1);
         x.pass(20);
         x.piece();
-        zone(x, 0, 0, 1);
+        Check.zone(x, 0, 0, 1);
         x.link(2, 1);
-        zone(x, 0, 0, 1, 2);
+        Check.zone(x, 0, 0, 1, 2);
     }
 
     private static void theWholeRowIsReached() {
@@ -76,22 +64,6 @@ public final class LostTest {
         x.pass(1);
         Check.due("20th piece", x.zone(0, 19), 19);
         Check.due("found at the end of the row", x.found(0, 19), 19);
-    }
-
-    private static void zonesAreRefused() {
-        RobotFaults x = Check.robots(1);
-        Check.refused("zone(1, 0)", NoSuchElementException.class, () -> x.zone(1, 0));
-        Check.refused("zone(-1, -1)", NoSuchElementException.class, () -> x.zone(-1, -1));
-        Check.refused("zone(0, -1) of a going one", IllegalArgumentException.class, () -> x.zone(0, -1));
-        Check.refused("zone of a going one", IllegalStateException.class, () -> x.zone(0, 0));
-        x.fault(0, 0);
-        Check.refused("zone of a stopped one", IllegalStateException.class, () -> x.zone(0, 0));
-        x.tow(0, 0);
-        Check.refused("zone of a towed one", IllegalStateException.class, () -> x.zone(0, 0));
-        x.fault(0, 1);
-        Check.refused("zone(0, -1)", IllegalArgumentException.class, () -> x.zone(0, -1));
-        Check.refused("zone(0, min)", IllegalArgumentException.class, () -> x.zone(0, Integer.MIN_VALUE));
-        Check.due("zone(0, 0)", x.zone(0, 0), 0);
     }
 
     private static void foundByTheFewestLinks() {
@@ -110,25 +82,6 @@ public final class LostTest {
         Check.due("found on its last piece", x.found(0, 5), 0);
     }
 
-    private static void findingIsRefused() {
-        RobotFaults x = Check.row(3);
-        x.robot(0);
-        Check.refused("found(1, 0)", NoSuchElementException.class, () -> x.found(1, 0));
-        Check.refused("found(-1, 0)", NoSuchElementException.class, () -> x.found(-1, 0));
-        Check.refused("found(0, 3)", NoSuchElementException.class, () -> x.found(0, 3));
-        Check.refused("found(0, -1)", NoSuchElementException.class, () -> x.found(0, -1));
-        Check.refused("found, going", IllegalStateException.class, () -> x.found(0, 0));
-        x.fault(0, 1);
-        x.pass(19);
-        Check.refused("found too far", IllegalStateException.class, () -> x.found(0, 2));
-        Check.due("still lost", x.told(0, 0), 2);
-        x.pass(1);
-        Check.due("found in time", x.found(0, 2), 2);
-        Check.refused("found again", IllegalStateException.class, () -> x.found(0, 2));
-        x.tow(0, 0);
-        Check.refused("found, towed", IllegalStateException.class, () -> x.found(0, 0));
-    }
-
     /** A second lost connection counts its seconds anew, be the robot found or still lost. */
     private static void aRobotIsLostAnew() {
         RobotFaults x = Check.row(4);
@@ -139,13 +92,13 @@ public final class LostTest {
         x.step(1, 0);
         x.pass(50);
         x.fault(0, 1);
-        zone(x, 0, 1);
+        Check.zone(x, 0, 1);
         x.pass(10);
-        zone(x, 0, 0, 1, 2);
+        Check.zone(x, 0, 0, 1, 2);
         x.step(2, 0);
         x.fault(0, 1);
-        zone(x, 0, 1);
+        Check.zone(x, 0, 1);
         x.pass(10);
-        zone(x, 0, 0, 1, 2);
+        Check.zone(x, 0, 0, 1, 2);
     }
 }

@@ -1,50 +1,18 @@
-import java.util.NoSuchElementException;
-
 /** Promises 15 (plant), 16 (pass). */
 public final class PlantTest {
     public static void main(String[] args) {
-        plantingIsRefused();
-        tenArePlanted();
         aPlantedFaultComes();
         theyComeInTheirOrder();
         theyComeAtTheirSeconds();
         someDoNotCome();
         noneComesWithoutRoom();
         theRuleIsThatOfTheSecond();
-        passingIsRefused();
         timeEnds();
         alarmsRise();
         alarmsRiseBehindTheLastFault();
         plantedFaultsComeBeforeAlarmsRise();
         manySecondsAreAsMany();
         Check.end();
-    }
-
-    private static void plantingIsRefused() {
-        RobotFaults x = Check.robots(1);
-        Check.refused("plant(1, 8, 0)", NoSuchElementException.class, () -> x.plant(1, 8, 0));
-        Check.refused("plant(-1, 0, 1)", NoSuchElementException.class, () -> x.plant(-1, 0, 1));
-        Check.refused("plant(0, 8, 1)", IllegalArgumentException.class, () -> x.plant(0, 8, 1));
-        Check.refused("plant(0, -1, 1)", IllegalArgumentException.class, () -> x.plant(0, -1, 1));
-        Check.refused("plant(0, 0, 0)", IllegalArgumentException.class, () -> x.plant(0, 0, 0));
-        Check.refused("plant(0, 0, 1001)", IllegalArgumentException.class, () -> x.plant(0, 0, 1001));
-        Check.refused("plant(0, 0, max)", IllegalArgumentException.class, () -> x.plant(0, 0, Integer.MAX_VALUE));
-        Check.due("planted after refusals", x.count(8), 0);
-    }
-
-    private static void tenArePlanted() {
-        RobotFaults x = Check.robots(1);
-        for (int i = 0; i < 10; i++) {
-            x.plant(0, i % 8, 1000 - i);
-            Check.due("planted", x.count(8), i + 1);
-        }
-        Check.refused("11th", UnsupportedOperationException.class, () -> x.plant(0, 0, 1));
-        Check.refused("11th, wrong", IllegalArgumentException.class, () -> x.plant(0, 0, 0));
-        Check.refused("11th, no robot", NoSuchElementException.class, () -> x.plant(1, 0, 1));
-        x.pass(991);
-        Check.due("one came", x.count(8), 9);
-        x.plant(0, 0, 1);
-        Check.refused("11th then", UnsupportedOperationException.class, () -> x.plant(0, 0, 1));
     }
 
     private static void aPlantedFaultComes() {
@@ -55,10 +23,7 @@ public final class PlantTest {
         x.plant(0, 1, 1000);
         Check.due("nothing yet", x.count(2), 0);
         Check.due("pass(1)", x.pass(1), 0);
-        int[] want = {0, 2, 1, -1, 0, 0, 1, 0, 8};
-        for (int what = 0; what < want.length; what++) {
-            Check.due("known(1, " + what + ")", x.known(1, what), want[what]);
-        }
+        Check.known(x, 1, 0, 2, 1, -1, 0, 0, 1, 0, 8);
         Check.due("stopped", x.told(0, 0), 1);
         x.tow(0, 1);
         x.pass(998);
@@ -135,19 +100,6 @@ public final class PlantTest {
         Check.due("rank", x.alarm(0, 2), 1);
         Check.due("test", x.told(0, 4), 1);
         Check.due("persons", x.step(1, 0), 0);
-    }
-
-    private static void passingIsRefused() {
-        RobotFaults x = Check.robots(1);
-        Check.refused("pass(-1)", IllegalArgumentException.class, () -> x.pass(-1));
-        Check.refused("pass(1001)", IllegalArgumentException.class, () -> x.pass(1001));
-        Check.refused("pass(max)", IllegalArgumentException.class, () -> x.pass(Integer.MAX_VALUE));
-        Check.refused("pass(min)", IllegalArgumentException.class, () -> x.pass(Integer.MIN_VALUE));
-        Check.due("time after refusals", x.count(6), 0);
-        Check.due("pass(0)", x.pass(0), 0);
-        Check.due("time then", x.count(6), 0);
-        x.pass(1000);
-        Check.due("pass(1000)", x.count(6), 1000);
     }
 
     private static void timeEnds() {

@@ -69,14 +69,14 @@ public final class RandomRunsTest {
     }
 
     private void chooseArguments(int call) {
-        int piece = below(made.count(0));
-        int robot = below(made.count(1));
+        int piece = below(model.count(0));
+        int robot = below(model.count(1));
         int kind = below(random.nextBoolean() ? 3 : 8);
-        int fault = random.nextInt(3) > 0 ? made.count(2) - below(4) : below(made.count(2)) + 1;
-        int alarm = below(made.count(4));
+        int fault = random.nextInt(3) > 0 ? model.count(2) - below(4) : below(model.count(2)) + 1;
+        int alarm = below(model.count(4));
         int person = below(8);
         switch (NAMES[call]) {
-            case "link" -> put(piece, below(made.count(0)), 0, 0);
+            case "link" -> put(piece, below(model.count(0)), 0, 0);
             case "robot" -> put(piece, 0, 0, 0);
             case "rule" -> put(kind, below(2) + 1, random.nextInt(2), below(5) + 1);
             case "move", "found", "tow" -> put(robot, piece, 0, 0);

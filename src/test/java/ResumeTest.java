@@ -1,33 +1,12 @@
-import java.util.NoSuchElementException;
-
 /** Promises 10 (test), 11 (resume), 14 (tow). */
 public final class ResumeTest {
     public static void main(String[] args) {
-        testsAreRefused();
         aBadTestAsksForAnother();
         aGoodTestIsEnough();
         aTestIsWantedTillAGoodOne();
-        resumingIsRefused();
         whyItDoesNotResume();
         towing();
-        towingIsRefused();
         Check.end();
-    }
-
-    private static void testsAreRefused() {
-        RobotFaults x = Check.robots(1);
-        Check.refused("test(1, true)", NoSuchElementException.class, () -> x.test(1, true));
-        Check.refused("test(-1, true)", NoSuchElementException.class, () -> x.test(-1, true));
-        Check.refused("test of a going one", IllegalStateException.class, () -> x.test(0, false));
-        Check.due("going and no test wanted", x.told(0, 4), 0);
-        x.fault(0, 0);
-        Check.refused("test with an open fault", IllegalStateException.class, () -> x.test(0, true));
-        x.fault(0, 1);
-        x.step(1, 0);
-        x.step(2, 0);
-        Check.refused("test of a lost one", IllegalStateException.class, () -> x.test(0, true));
-        x.found(0, 0);
-        Check.due("test of a found one", x.test(0, true), true);
     }
 
     private static void aBadTestAsksForAnother() {
@@ -63,17 +42,6 @@ public final class ResumeTest {
         x.test(0, true);
         x.fault(0, 3);
         Check.due("and brings none", x.told(0, 4), 0);
-    }
-
-    private static void resumingIsRefused() {
-        RobotFaults x = Check.robots(1);
-        Check.refused("resume(1)", NoSuchElementException.class, () -> x.resume(1));
-        Check.refused("resume(-1)", NoSuchElementException.class, () -> x.resume(-1));
-        Check.refused("resume of a going one", IllegalStateException.class, () -> x.resume(0));
-        Check.faultsAndResets(x, 0, 0, 1);
-        Check.due("resume(0)", x.resume(0), 1);
-        Check.due("going", x.told(0, 0), 0);
-        Check.refused("resume again", IllegalStateException.class, () -> x.resume(0));
     }
 
     private static void whyItDoesNotResume() {
@@ -112,19 +80,5 @@ public final class ResumeTest {
         Check.due("resumes", x.resume(0), 1);
         x.move(0, 2);
         Check.due("goes on from there", x.told(0, 1), 2);
-    }
-
-    private static void towingIsRefused() {
-        RobotFaults x = Check.row(2);
-        x.robot(0);
-        Check.refused("tow(1, 0)", NoSuchElementException.class, () -> x.tow(1, 0));
-        Check.refused("tow(-1, 0)", NoSuchElementException.class, () -> x.tow(-1, 0));
-        Check.refused("tow(0, 2)", NoSuchElementException.class, () -> x.tow(0, 2));
-        Check.refused("tow(0, -1)", NoSuchElementException.class, () -> x.tow(0, -1));
-        Check.refused("tow of a going one", IllegalStateException.class, () -> x.tow(0, 1));
-        x.fault(0, 1);
-        Check.refused("tow of a lost one", IllegalStateException.class, () -> x.tow(0, 1));
-        Check.due("piece after refusals", x.told(0, 1), 0);
-        Check.due("state after refusals", x.told(0, 0), 2);
     }
 }

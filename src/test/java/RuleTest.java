@@ -1,31 +1,9 @@
 /** Promise 5 (rule). */
 public final class RuleTest {
     public static void main(String[] args) {
-        rulesAreRefused();
         aRuleIsForFaultsThatCome();
         aRuleIsItsKindsAlone();
         Check.end();
-    }
-
-    private static void rulesAreRefused() {
-        RobotFaults x = Check.robots(1);
-        refused(x, -1, 1, 1);
-        refused(x, 8, 1, 1);
-        refused(x, 0, 0, 1);
-        refused(x, 0, 3, 1);
-        refused(x, 0, 1, 0);
-        refused(x, 0, 1, 6);
-        refused(x, 0, -1, Integer.MIN_VALUE);
-        x.fault(0, 0);
-        Check.due("rank after refusals", x.alarm(0, 2), 3);
-        Check.due("test after refusals", x.told(0, 4), 0);
-        x.rule(0, 1, false, 1);
-        x.rule(7, 2, true, 5);
-    }
-
-    private static void refused(RobotFaults x, int kind, int persons, int rank) {
-        Check.refused("rule(" + kind + ", " + persons + ", true, " + rank + ")", IllegalArgumentException.class,
-                () -> x.rule(kind, persons, true, rank));
     }
 
     private static void aRuleIsForFaultsThatCome() {
